@@ -76,7 +76,6 @@ public final class EpochTree {
         Server follower = servers[server];
         follower.role = IS_FOLLOWING;
         follower.leader = leader;
-        follower.link.clear();
         follower.link.up.send(JOIN, follower.promise);
         return true;
     }
@@ -347,7 +346,7 @@ public final class EpochTree {
     private void readAck(Server leader, Server follower, int k) {
         if (leader.role == IS_LEADING) {
             leader.role = IS_ESTABLISHED;
-            leader.term.clearAges();
+            Arrays.fill(leader.term.ages, 0);
         }
         boolean first = !follower.link.acked;
         follower.link.acked = true;
@@ -469,15 +468,10 @@ public final class EpochTree {
             epochChosen = false;
             listChosen = false;
             made = 0;
-            clearAges();
-        }
-
-        private void clearAges() {
-            Arrays.fill(ages, 0);
         }
     }
 
-    /** The link of a follower with its leader. */
+    /** The link of a follower with its leader; one that is cut is cleared, ready for the next one. */
     private static final class Link {
         private final Row up;
         private final Row down;

@@ -15,6 +15,7 @@ public final class MessagesTest {
         listOfHigherEpoch();
         listOfHigherMark();
         ownListWhenNotBelow();
+        ownListOfHigherEpoch();
         newLeaderIsTheListWhenSent();
         commitOnEveryTiedLink();
         firstAckOnly();
@@ -304,6 +305,28 @@ public final class MessagesTest {
         Steps.join(y, 2, 0);
         DUE.is("own list with the higher epoch", y.length(0), 1);
         DUE.is("and the follower has it", y.length(2), 1);
+    }
+
+    private static void ownListOfHigherEpoch() {
+        EpochTree x = Steps.established(0, 1);
+        x.submit(0, 1, 1, 7, 0);
+        x.submit(0, 1, 2, 7, 0);
+        x.quit(0);
+        x.lead(1);
+        Steps.join(x, 2, 1);
+        x.quit(1);
+        x.lead(1);
+        x.follow(0, 1);
+        x.up(0);
+        x.down(0);
+        DUE.is("the follower's epoch is lower", x.epoch(0), 1);
+        DUE.is("its last mark is higher", x.mark(0, 2), 1002);
+        DUE.is("the leader's epoch", x.epoch(1), 2);
+        x.up(0);
+        DUE.is("the epoch counts first: own list", x.length(1), 0);
+        x.down(0);
+        DUE.is("which the follower takes", x.length(0), 0);
+        DUE.is("with the epoch", x.epoch(0), 3);
     }
 
     private static void newLeaderIsTheListWhenSent() {
