@@ -24,8 +24,17 @@ final class Due {
         is(what, got ? 1 : 0, 0);
     }
 
+    void fail(String why) {
+        wrong++;
+        System.out.println(test + ": " + why);
+    }
+
     int wrong() {
         return wrong;
+    }
+
+    int seen() {
+        return seen;
     }
 
     void end() {
