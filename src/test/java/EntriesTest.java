@@ -1,6 +1,5 @@
 /** Promises 9, 15, 16, 17 and 18: making entries, their marks, and how many are applied with what result. */
 public final class EntriesTest {
-    private static final int[] NO_SERVERS = {-1, 3, Integer.MIN_VALUE, Integer.MAX_VALUE};
     private static final Due DUE = new Due("EntriesTest");
 
     public static void main(String[] args) {
@@ -23,7 +22,7 @@ public final class EntriesTest {
 
     private static void badServer() {
         EpochTree x = Steps.established(0, 1);
-        for (int s : NO_SERVERS) {
+        for (int s : Steps.NO_SERVERS) {
             DUE.is("submit to none", x.submit(s, 1, 1, 1, 0), EpochTree.BAD);
             DUE.is("length of none", x.length(s), EpochTree.BAD);
             DUE.is("mark of none", x.mark(s, 1), 0);

@@ -200,6 +200,20 @@ final class LinkSentences {
         y.lead(0);
         Steps.accept(y, 2, 0);
         due.is("the better list first", y.length(0), 1);
+        // The ACCEPTED of 1 is lost, so that its next one is not fresh: it does not count.
+        EpochTree z = new EpochTree();
+        z.lead(0);
+        z.follow(1, 0);
+        z.up(1);
+        z.down(1);
+        z.quit(1);
+        Steps.accept(z, 1, 0);
+        due.is("one that is not fresh does not choose", z.epoch(0), 0);
+        Steps.accept(z, 2, 0);
+        due.is("the first fresh one does", z.epoch(0), 1);
+        z.quit(1);
+        Steps.accept(z, 1, 0);
+        due.is("a later one has no list to wait for", z.down(1), 5);
     }
 
     private static void up(Sentences s) {
@@ -227,6 +241,7 @@ final class LinkSentences {
             x.follow(1, 0);
             x.up(1);
             due.is("the only one is read, one waits down", x.up(1), 0);
+            due.is("that is no ACK", x.role(0), 3);
             Steps.settle(x, 1);
             due.is("all are read", x.up(1), 0);
         });
@@ -250,6 +265,7 @@ final class LinkSentences {
         s.under("Promise 8");
         s.test("A following server reads the next message down on its link.", due -> {
             EpochTree x = busy();
+            due.is("entries before", x.length(2), 0);
             x.down(2);
             due.is("read on this link", x.waiting(2, false), 1);
             due.is("not on the other one", x.waiting(1, false), 1);

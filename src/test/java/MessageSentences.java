@@ -187,6 +187,10 @@ final class MessageSentences {
         y.lead(2);
         Steps.accept(y, 0, 2);
         due.is("a lower epoch with a higher mark does not count", y.length(2), 0);
+        EpochTree z = sameEpoch(1, 0);
+        z.lead(0);
+        Steps.accept(z, 1, 0);
+        due.is("an equal epoch is not above", z.length(0), 1);
     }
 
     /** 0 and 1 have epoch 1; 0 has this many entries, 1 has the first ones of them. */

@@ -130,7 +130,7 @@ final class RefusalSentences {
         run.add(restart(2));
         addJoin(run, 2, 0);
         run.add(touch(0, 1));
-        addTicks(run, 2);
+        addTicks(run, 3);
         run.add(submit(0, 2, 1, -1));
         addLook(run);
     }

@@ -271,25 +271,28 @@ final class RoleSentences {
 
     private static void treeComesFromEntries(Due due) {
         EpochTree x = Steps.established(0, 1);
-        x.submit(0, 1, 9, 1, 0);
         x.submit(0, 1, 1, 2, 0);
         x.submit(0, 1, 9, 3, 0);
-        x.submit(0, 2, 9, 4, 0);
-        int[] tree = {0, 0, 1, 2, 2};
-        int[] data = {0, 0, 0, 3, 4};
+        x.submit(0, 2, 9, 4, -1);
+        x.submit(0, 1, 9, 5, 0);
+        int[] tree = {1, 2, 2, 2};
+        int[] data = {0, 3, 4, 4};
         for (int k = 1; k <= 4; k++) {
             x.down(1);
         }
         for (int k = 1; k <= 4; k++) {
             x.up(1);
-            due.is("nodes after " + k + " entries", x.tree(0), tree[k]);
-            due.is("data of 9 after " + k + " entries", x.node(0, 9, 1), data[k]);
+            due.is("nodes after " + k + " entries", x.tree(0), tree[k - 1]);
+            due.is("data of 9 after " + k + " entries", x.node(0, 9, 1), data[k - 1]);
         }
+        Steps.settle(x, 1);
         x.crash(1);
         x.restart(1);
         Steps.join(x, 1, 0);
         due.is("again, from the empty tree", x.tree(1), 2);
         due.is("the version is that of one SET", x.node(1, 9, 2), 1);
+        due.is("the first CREATE is done again", x.result(1, 1), 0);
+        due.is("the last one is refused again", x.result(1, 4), 2);
     }
 
     private static void notYetEstablished(Due due) {
@@ -420,6 +423,11 @@ final class RoleSentences {
         due.is("NEWLEADER", x.down(1), 5);
         due.is("ACK", x.up(1), 3);
         due.is("COMMIT", x.down(1), 7);
+        x.quit(1);
+        Steps.accept(x, 1, 0);
+        x.down(1);
+        due.is("its first ACK, with nothing new", x.up(1), 3);
+        due.is("is answered by COMMIT as on every new link", x.down(1), 7);
     }
 
     private static void followInOtherRoles(Due due) {

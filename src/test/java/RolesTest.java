@@ -1,6 +1,5 @@
 /** Promises 1 to 6 and 12: a new object, and how servers come into their roles. */
 public final class RolesTest {
-    private static final int[] NO_SERVERS = {-1, 3, Integer.MIN_VALUE, Integer.MAX_VALUE};
     private static final Due DUE = new Due("RolesTest");
 
     public static void main(String[] args) {
@@ -195,7 +194,7 @@ public final class RolesTest {
 
     private static void noSuchServer() {
         EpochTree x = Steps.established(0, 1);
-        for (int s : NO_SERVERS) {
+        for (int s : Steps.NO_SERVERS) {
             DUE.no("lead of none", x.lead(s));
             DUE.no("follow of none", x.follow(s, 0));
             DUE.no("follow none", x.follow(2, s));

@@ -89,6 +89,10 @@ final class TimeSentences {
         due.is("both are open", x.tree(0), 64 * 6);
         due.yes("touch", x.touch(0, 1));
         ticks(due, x, 0, 0, 0, 0);
+        EpochTree y = withOpen(1);
+        Steps.fillTo(y, 0, 23);
+        ticks(due, y, 0, 0, 1);
+        due.is("3 itself is reached", y.length(0), 24);
     }
 
     private static void othersBecome0(Due due) {

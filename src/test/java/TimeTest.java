@@ -106,15 +106,9 @@ public final class TimeTest {
         DUE.is("then 2", x.tree(0), 0);
     }
 
-    private static void fillTo(EpochTree x, int length) {
-        for (int i = x.length(0); i < length; i++) {
-            x.submit(0, 2, 1, i, -1);
-        }
-    }
-
     private static void fullListKeepsAge() {
         EpochTree x = withOpen(1);
-        fillTo(x, 24);
+        Steps.fillTo(x, 0, 24);
         for (int i = 0; i < 6; i++) {
             DUE.is("full: no CLOSE", x.tick(), 0);
         }
@@ -124,7 +118,7 @@ public final class TimeTest {
 
     private static void oneRoomInTheList() {
         EpochTree x = withOpen(1, 2, 3);
-        fillTo(x, 22);
+        Steps.fillTo(x, 0, 22);
         x.tick();
         x.tick();
         DUE.is("room for two of three", x.tick(), 2);

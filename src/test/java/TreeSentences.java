@@ -196,6 +196,15 @@ final class TreeSentences {
             due.is("the same at the follower", x.result(1, k), want[k - 1]);
         }
         due.is("the tree", x.tree(1), 0);
+        // A new leader applies them all at once, in the same order.
+        x.crash(0);
+        x.crash(1);
+        x.restart(1);
+        x.lead(1);
+        Steps.join(x, 2, 1);
+        for (int k = 1; k <= 4; k++) {
+            due.is("result " + k + " when all are applied at once", x.result(1, k), want[k - 1]);
+        }
     }
 
     private static void firstResultCounts(Due due) {
@@ -283,6 +292,10 @@ final class TreeSentences {
         due.is("CREATE again", run.change(CREATE, 6, 3, 4), 0);
         run.nodeIs(due, 6, 3, 0, 0, 4);
         run.nodeIs(due, 5, 8, 0, 0, 4);
+        run.change(SET, 6, 1, -1);
+        run.change(DELETE, 6, 0, 1);
+        due.is("CREATE after the newest node is gone", run.change(CREATE, 7, 4, 0), 0);
+        run.nodeIs(due, 7, 4, 0, 0, 0);
     }
 
     private static void set(Sentences s) {
