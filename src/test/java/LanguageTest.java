@@ -12,7 +12,10 @@ import java.util.TreeSet;
 import java.util.regex.Matcher;
 import java.util.regex.Pattern;
 
-/** The rules of LANGUAGE.md that can be seen from the source, or from the class by reflection. */
+/**
+ * The rules of LANGUAGE.md that can be seen from the source, or from the class by reflection. Where the rules
+ * allow more of the library than the class needs, this allows only numbers and arrays of them.
+ */
 public final class LanguageTest {
     private static final Set<String> FORBIDDEN = Set.of("throw", "throws", "try", "catch", "finally", "synchronized",
             "assert", "package", "Thread", "Object", "equals", "hashCode", "toString", "Random", "native", "volatile");
